@@ -26,6 +26,7 @@ public final class PromiseTest {
         removeMakesNodesFree();
         rename();
         renameLiesIn();
+        renameLiesInDeep();
         renameFull();
         write();
         cut();
@@ -364,6 +365,21 @@ public final class PromiseTest {
         crash(x, 5, 5);
         rename(x, 0, 2, 3, 0, DONE);
         rename(x, 0, 9, 4, 7, REFUSED);
+    }
+
+    private static void renameLiesInDeep() {
+        due.part("5 rename, lies in, as deep as nodes allow");
+        AppendOnlyTree x = new AppendOnlyTree(8);
+        for (int node = 1; node <= 15; node++) {
+            create(x, node - 1, 1, true, node);
+        }
+        for (int node = 1; node <= 15; node++) {
+            rename(x, node - 1, 1, 15, 2, REFUSED);
+        }
+        rename(x, 14, 1, 0, 2, DONE);
+        rename(x, 0, 1, 15, 2, DONE);
+        find(x, 15, 2, 1);
+        rename(x, 0, 2, 14, 3, REFUSED);
     }
 
     private static void renameFull() {
