@@ -16,6 +16,14 @@ final class Due {
         }
     }
 
+    void same(String call, String got, String want) {
+        looked++;
+        if (!got.equals(want)) {
+            wrong++;
+            System.out.println(part + ": " + call + " answered\n  " + got + ", due is\n  " + want);
+        }
+    }
+
     boolean allRight() {
         return wrong == 0;
     }
