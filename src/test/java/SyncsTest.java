@@ -28,6 +28,7 @@ public final class SyncsTest {
     public static void main(String[] args) {
         segmentsAreClamped();
         clampedObjectsAreAlike();
+        newObjectsAreApart();
         syncAnswersKept();
         syncOfNothing();
         syncOfAllThatHasRoom();
@@ -111,6 +112,22 @@ public final class SyncsTest {
             run.count(0, limits[i] - 8);
             run.create(0, 31, false, NO_ROOM);
         }
+    }
+
+    private static void newObjectsAreApart() {
+        due.part("1: A new object: nothing of another one");
+        Run one = some();
+        Run other = new Run(due, 4);
+        other.counts(1, 1, 0, 0, 1);
+        other.create(0, 1, false, 1);
+        other.write(1, 0, 9, DONE);
+        other.sync(3);
+        other.crash(0, 0);
+        due.same("all of the one", one.look(), some().look());
+        one.crash(0, 0);
+        other.counts(3, 3, 0, 1, 2);
+        other.count(5, 16);
+        other.read(1, 0, 9);
     }
 
     private static void syncAnswersKept() {
