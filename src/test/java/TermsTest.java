@@ -93,7 +93,7 @@ public final class TermsTest {
 
     private static void noNodeBelowOrAbove() {
         due.part("NODES have numbers 0 .. 15.");
-        int[] noNodes = {-1, 16, 17, -16, 32, 256, LEAST, MOST};
+        int[] noNodes = {-1, 16, 17, -16, 32, 256, -500, 500, LEAST, MOST};
         for (int no : noNodes) {
             behind.nothing(TermsTest::some,
                     run -> run.create(no, 9, false, REFUSED),
@@ -274,7 +274,7 @@ public final class TermsTest {
 
     private static void noNameBelowOrAbove() {
         due.part("each a name (0 .. 31 ..): before the first and after the last");
-        int[] noNames = {-1, 32, 33, -32, 64, 256, LEAST, MOST};
+        int[] noNames = {-1, 32, 33, -32, 64, 256, -500, 500, LEAST, MOST};
         // Entries at both ends of both directories: a name that ran over would meet a neighbour's entry.
         Behind.Start start = () -> {
             Run run = some();
