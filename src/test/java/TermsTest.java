@@ -16,6 +16,9 @@ public final class TermsTest {
     private static final Behind behind = new Behind(due);
 
     public static void main(String[] args) {
+        everyChangeAddsBlocks();
+        syncMakesSafeAndMakesRoom();
+        treeAfterACrash();
         callsOfOneObject();
         changesAsTheLastCalls();
         noNodeBelowOrAbove();
@@ -64,6 +67,60 @@ public final class TermsTest {
 
     private static Run fullDirectory() {
         return Starts.fullDirectory(due);
+    }
+
+    private static void everyChangeAddsBlocks() {
+        due.part("Files and directories kept by appending alone: every change adds blocks to a log");
+        Behind.Call[] changes = {
+            run -> run.create(0, 9, false, 5),
+            run -> run.link(0, 10, 3, DONE),
+            run -> run.write(3, 0, 30, DONE),
+            run -> run.rename(0, 5, 0, 6, DONE),
+            // Also those that make the tree less.
+            run -> run.cut(3, 0, DONE),
+            run -> run.remove(0, 9, DONE),
+            run -> run.remove(0, 6, DONE),
+        };
+        Run run = some();
+        for (Behind.Call change : changes) {
+            int kept = run.count(1);
+            int done = run.count(2);
+            change.on(run);
+            due.is("more is kept", run.count(1) > kept ? 1 : 0, 1);
+            run.count(2, done + 1);
+        }
+    }
+
+    private static void syncMakesSafeAndMakesRoom() {
+        due.part("a sync makes what is there safe and makes room");
+        Run run = Starts.someKept(due, 48);
+        String before = run.nodes();
+        run.sync(8);
+        run.count(1, 8);
+        run.crash(0, 0);
+        due.same("the tree after sync and crash(0)", run.nodes(), before);
+        // The room is for 40 blocks: 12 changes of cost 3 and 2 of cost 2, until a sync is made by itself.
+        for (int k = 0; k < 12; k++) {
+            run.write(2, 0, k, DONE);
+        }
+        run.cut(2, 1, DONE);
+        run.cut(2, 1, DONE);
+        run.counts(8, 48, 14, 2, 5);
+        run.cut(2, 1, DONE);
+        run.counts(8, 10, 1, 3, 5);
+    }
+
+    private static void treeAfterACrash() {
+        due.part("after a crash the tree is that of the last sync and the first so many changes since");
+        for (int keep = 0; keep <= 3; keep++) {
+            Run run = some();
+            run.crash(keep, keep);
+            run.find(0, 3, 3);
+            run.read(3, 1, 31);
+            run.find(1, 4, keep >= 1 ? 3 : ABSENT);
+            run.find(0, 5, keep >= 2 ? 4 : ABSENT);
+            run.read(2, 0, keep >= 3 ? 20 : NONE);
+        }
     }
 
     private static void callsOfOneObject() {
